@@ -62,6 +62,7 @@ final class OrderTests {
         for (int q = 0; q < 5; q++) {
             check.due("order(2, " + q + ")", x.order(2, q), due[q]);
         }
+        check.due("order(9, 0)", x.order(9, 0), 0);
         check.due("order(2, MAX)", x.order(2, Integer.MAX_VALUE), -9);
         // Cell 0 is too far for all but one that comes by 1: the TABLE has to be the first.
         BrookStones y = Brooks.by("d90000;b00000;p0");

@@ -8,6 +8,39 @@ final class PlanTests {
         check.test("22 plan: a flood is looked at", PlanTests::behindAFlood);
         check.test("22 plan: which stones", PlanTests::whichStones);
         check.test("22 plan: refusals", PlanTests::refused);
+        check.test("the most there can be: seven cells, six stones", PlanTests::theMost);
+    }
+
+    /** Five light STONES and a heavy TABLE, in all CELLS but the last one but one. */
+    private static void theMost(Check check) {
+        BrookStones x = Brooks.by("d0000000;b0000000;p1");
+        for (int s = 0; s < 6; s++) {
+            x.stone(s == 5 ? 2 : 0, 1, s == 5 ? 9 : 1, 0);
+            x.set(s, s == 5 ? 6 : s);
+            x.walker(s + 1);
+        }
+        int[] way = {0, 1, 2, 3, 4, 6, 7};
+        check.due("way(0, -1)", x.way(0, -1), 7);
+        for (int q = 0; q < 7; q++) {
+            check.due("way(0, " + q + ")", x.way(0, q), way[q]);
+        }
+        check.due("way(0, 7)", x.way(0, 7), -9);
+        check.due("stride(5)", x.stride(5), 6);
+        check.due("ofStone(5, 5)", x.ofStone(5, 5), 6);
+        check.due("pass(0, 5)", x.pass(0, 5), 64);
+        check.due("stands(0, 1)", x.stands(0, 1), 64);
+        check.due("dug(6, 0, 11)", x.dug(6, 0, 11), 11);
+        check.due("goes(6, 0)", x.goes(6, 0), 12);
+        check.due("save(0, 12, 0)", x.save(0, 12, 0), 6);
+        check.due("fits(64, 11)", x.fits(64, 11), 1);
+        check.due("orders(9)", x.orders(9), 720);
+        check.due("order(9, 5)", x.order(9, 5), 6);
+        check.due("order(9, 6)", x.order(9, 6), -9);
+        due(check, x, new int[] {1, 0, 0}, 52, 6, 5, -9, 0, 1, 2, 3, 4);
+        due(check, x, new int[] {4, 0, 1}, 81, 1, -9, -9, 5, -9, -9, -9, -9);
+        check.due("plan(4, 0, 0, -1)", x.plan(4, 0, 0, -1), 4);
+        check.due("flood(0, 12)", x.flood(0, 12), 6);
+        due(check, x, new int[] {7, 0, 0}, -9, -9, -9, -9, -9, -9, -9, -9, -9);
     }
 
     /** A row: the STONE of each CELL, or -9; ahead of them WORK and how many. */

@@ -12,6 +12,7 @@ final class SheetTests {
         check.test("29 put", SheetTests::put);
         check.test("30 cell", SheetTests::cell);
         check.test("31 copy", SheetTests::copy);
+        check.test("31 copy: from each to each", SheetTests::copyEach);
         check.test("31 copy: refusals and faults", SheetTests::copyRefused);
         check.test("32 tell", SheetTests::tell);
         check.test("33 tread", SheetTests::tread);
@@ -124,9 +125,31 @@ final class SheetTests {
         check.due("copy(0, 1, 0, 0, 4)", x.copy(0, 1, 0, 0, 4), 4);
         holds(check, x, 0, 1, 1, 2, 3, 4, 4);
         check.due("copy(0, 5, 1, 3, 0)", x.copy(0, 5, 1, 3, 0), 0);
-        check.due("copy(0, 2, 0, 2, 3)", x.copy(0, 2, 0, 2, 3), 3);
+        check.due("copy(0, 2, 0, 2, 3) at its own place", x.copy(0, 2, 0, 2, 3), 3);
         holds(check, x, 0, 1, 1, 2, 3, 4, 4);
         check.due("fault()", x.fault(), 0);
+    }
+
+    private static void copyEach(Check check) {
+        for (int k = 0; k < 4; k++) {
+            for (int other = 0; other < 4; other++) {
+                BrookStones x = new BrookStones();
+                for (int sheet = 0; sheet < 4; sheet++) {
+                    x.sheet(sheet, 2, 60);
+                    for (int i = 0; i < 60; i += 59) {
+                        x.put(sheet, i, 100 * sheet + i);
+                    }
+                }
+                check.due("copy(" + k + ", 0, " + other + ", 0, 60)", x.copy(k, 0, other, 0, 60), 60);
+                for (int sheet = 0; sheet < 4; sheet++) {
+                    long from = sheet == other ? k : sheet;
+                    check.due("cell(" + sheet + ", 0, 2)", x.cell(sheet, 0, 2), 100 * from);
+                    check.due("cell(" + sheet + ", 59, 2)", x.cell(sheet, 59, 2), 100 * from + 59);
+                }
+                x.sheet(other, 2, 60);
+                check.due("cell(" + other + ", 59, 2) anew", x.cell(other, 59, 2), 0);
+            }
+        }
     }
 
     private static void copyRefused(Check check) {
