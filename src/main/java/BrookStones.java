@@ -43,15 +43,9 @@ public final class BrookStones {
 
     public int brook(int sheet, int sort, int i, int n) {
         fault = 0;
-        if (!Sheets.isSheet(sheet)) {
-            return UNKNOWN;
-        }
-        if (!Sheets.isSort(sort)) {
-            return OUTSIDE;
-        }
-        int found = sheets.faultOfCells(sheet, sort, i, n);
-        if (found != 0) {
-            return failBy(found);
+        int refusal = refusalOfCells(sheet, sort, i, n);
+        if (refusal != 0) {
+            return refusal;
         }
         int place = Text.firstFault(sheets, sheet, i, n);
         if (place >= 0) {
@@ -232,15 +226,12 @@ public final class BrookStones {
 
     public int days(int x, int sheet, int sort, int i, int n) {
         fault = 0;
-        if (!brook.isWalker(x) || !Sheets.isSheet(sheet)) {
+        if (!brook.isWalker(x)) {
             return UNKNOWN;
         }
-        if (!Sheets.isSort(sort)) {
-            return OUTSIDE;
-        }
-        int found = sheets.faultOfCells(sheet, sort, i, n);
-        if (found != 0) {
-            return failBy(found);
+        int refusal = refusalOfCells(sheet, sort, i, n);
+        if (refusal != 0) {
+            return refusal;
         }
         if (!sheets.areWithin(sheet, i, n, MOST_WATER)) {
             return OUTSIDE;
@@ -389,12 +380,7 @@ public final class BrookStones {
 
     public long odds(int x, int sheet, int sort, int i, int rounds, int which) {
         fault = 0;
-        if (!brook.isWalker(x) || !Sheets.isSheet(sheet) || !Sheets.isSort(sort)) {
-            return LOST;
-        }
-        int found = sheets.faultOfCells(sheet, sort, i, FLOODS);
-        if (found != 0) {
-            fault = found;
+        if (!brook.isWalker(x) || refusalOfCells(sheet, sort, i, FLOODS) != 0) {
             return LOST;
         }
         if (!sheets.areWithin(sheet, i, FLOODS, MOST_ODD)) {
@@ -469,15 +455,7 @@ public final class BrookStones {
 
     public long cell(int k, int i, int sort) {
         fault = 0;
-        if (!Sheets.isSheet(k) || !Sheets.isSort(sort)) {
-            return LOST;
-        }
-        int found = sheets.faultOfCells(k, sort, i, 1);
-        if (found != 0) {
-            fault = found;
-            return LOST;
-        }
-        return sheets.at(k, i);
+        return refusalOfCells(k, sort, i, 1) == 0 ? sheets.at(k, i) : LOST;
     }
 
     public int copy(int k, int i, int other, int j, int n) {
@@ -562,6 +540,18 @@ public final class BrookStones {
             default:
                 return OUTSIDE;
         }
+    }
+
+    /** What a call answers that cannot take n cells from i on as a row of a sort; 0: it can. */
+    private int refusalOfCells(int sheet, int sort, int i, int n) {
+        if (!Sheets.isSheet(sheet)) {
+            return UNKNOWN;
+        }
+        if (!Sheets.isSort(sort)) {
+            return OUTSIDE;
+        }
+        int found = sheets.faultOfCells(sheet, sort, i, n);
+        return found == 0 ? 0 : failBy(found);
     }
 
     private int failBy(int found) {
