@@ -11,6 +11,14 @@ public final class AllTests {
         PlanTests.all(check);
         OrderTests.all(check);
         SheetTests.all(check);
+        EdgesOfBrooks.all(check);
+        EdgesOfStones.all(check);
+        EdgesOfWalks.all(check);
+        EdgesOfFloods.all(check);
+        EdgesOfPlans.all(check);
+        EdgesOfOrders.all(check);
+        EdgesOfSheets.all(check);
+        EdgesOfParts.all(check);
         check.test("texts as the plain model judges them", ModelTests::texts);
         check.test("long runs as the plain model answers them", c -> ModelTests.runs(c, 0, 1500));
         check.test("plans as the plain model finds them", c -> ModelTests.plans(c, 0, 250, 7));

@@ -67,8 +67,8 @@ final class ModelTests {
 
     /** TEXTS with one code changed, left out, put in or cut behind: each is judged alike. */
     static void texts(Check check) {
-        for (int run = 0; run < 40; run++) {
-            String wrong = new ModelTests(run).runOfTexts();
+        for (int run = 0; run < 120; run++) {
+            String wrong = new ModelTests(run).runOfTexts(run % 3);
             check.due("run " + run + ": " + wrong, wrong.length(), 0);
         }
     }
@@ -130,23 +130,22 @@ final class ModelTests {
         return wrong;
     }
 
-    private String runOfTexts() {
+    /** One change, at each place; more than these texts would be more calls than an object is used for. */
+    private String runOfTexts(int change) {
         cells = 3 + below(5);
         StringBuilder good = aText(10, 10, 10);
         String wrong = "";
-        for (int change = 0; change < 3; change++) {
-            for (int place = 0; place <= good.length() && wrong.isEmpty(); place++) {
-                StringBuilder text = new StringBuilder(good);
-                char code = "db;p0579/:\0x".charAt(below(12));
-                if (change == 0) {
-                    text.insert(place, code);
-                } else if (change == 1) {
-                    text.setLength(place);
-                } else if (place < text.length()) {
-                    text.setCharAt(place, code);
-                }
-                wrong = brookBy(text, below(3));
+        for (int place = 0; place <= good.length() && wrong.isEmpty(); place++) {
+            StringBuilder text = new StringBuilder(good);
+            char code = "db;p0579/:\0x".charAt(below(12));
+            if (change == 0) {
+                text.insert(place, code);
+            } else if (change == 1) {
+                text.setLength(place);
+            } else if (place < text.length()) {
+                text.setCharAt(place, code);
             }
+            wrong = brookBy(text, below(3));
         }
         return wrong;
     }
