@@ -1025,9 +1025,8 @@ public final class BrookStones {
         private final Flood flood = new Flood();
         private final int[] row = new int[MOST_CELLS];
         private final int[] best = new int[MOST_CELLS];
-        // Of each STONE the CELLS in which it is DRY, and in which it may be so behind the FLOOD.
-        private final int[] dry = new int[MOST_STONES];
-        private final int[] stays = new int[MOST_STONES];
+        // Of each STONE the CELLS in which it is of use: it may be DRY behind the FLOOD, too.
+        private final int[] uses = new int[MOST_STONES];
         // How far one has to come by what is laid ahead of a CELL, to come across at all.
         private final int[] needed = new int[MOST_CELLS + 1];
         private int bestWork;
@@ -1047,7 +1046,7 @@ public final class BrookStones {
                 lookAt(brook, s);
             }
             lookAhead(brook);
-            layFrom(this, brook, 0, brook.gone, 0, stride - 1, stride - 1);
+            layFrom(this, brook, 0, brook.gone, 0, stride - 1);
         }
 
         /** As if there were enough of each STONE, and from the far bank on. */
@@ -1057,7 +1056,7 @@ public final class BrookStones {
                 needed[c] = needed[c + 1];
                 for (int s = 0; s < brook.stones; s++) {
                     int ease = brook.easeOf(s);
-                    boolean helps = has(stays[s], c) && !has(brook.gone, s);
+                    boolean helps = has(uses[s], c) && !has(brook.gone, s);
                     if (helps && c + ease + stride >= needed[c + 1]) {
                         needed[c] = Math.min(needed[c], c - ease);
                     }
@@ -1069,28 +1068,23 @@ public final class BrookStones {
             return bestWork != NO_WORK;
         }
 
-        /** STONES beside it can only dig more: what goes alone in its CELL goes in any row. */
+        /**
+         * STONES beside it can only dig more: what goes alone in its CELL goes in any row, and is
+         * WORK for nothing there, as is what is not DRY.
+         */
         private void lookAt(Brook brook, int s) {
-            dry[s] = 0;
-            stays[s] = 0;
+            uses[s] = 0;
             for (int c = 0; c < brook.cells; c++) {
-                if (brook.topOf(s, c, brook.water) >= 1) {
-                    dry[s] |= 1 << c;
-                    int dug = rounds * Flood.digging(brook, c, 0, brook.guarded, f);
-                    if (dug < brook.holdOf(s)) {
-                        stays[s] |= 1 << c;
-                    }
+                int dug = rounds * Flood.digging(brook, c, 0, brook.guarded, f);
+                if (brook.topOf(s, c, brook.water) >= 1 && dug < brook.holdOf(s)) {
+                    uses[s] |= 1 << c;
                 }
             }
         }
 
-        /**
-         * Goes on with a row from CELL c on. How far one comes by the DRY STONES of the row is
-         * dryTo, by those that may stand behind the FLOOD stayTo, which is never more.
-         */
-        private static void layFrom(Planner p, Brook brook, int c, int used, int work,
-                int dryTo, int stayTo) {
-            if (stayTo < p.needed[c] || p.isWorse(brook, used, work)) {
+        /** Goes on with a row from CELL c on, by which one comes as far as far until there. */
+        private static void layFrom(Planner p, Brook brook, int c, int used, int work, int far) {
+            if (far < p.needed[c] || p.isWorse(brook, used, work)) {
                 return;
             }
             if (c >= brook.cells) {
@@ -1098,26 +1092,15 @@ public final class BrookStones {
                 return;
             }
             p.row[c] = NONE;
-            layFrom(p, brook, c + 1, used, work, dryTo, stayTo);
+            layFrom(p, brook, c + 1, used, work, far);
             for (int s = brook.stones - 1; s >= 0; s--) {
-                if (!has(used, s) && p.isNear(s, c, brook.easeOf(s), dryTo, stayTo)) {
-                    int to = c + brook.easeOf(s) + p.stride;
-                    int newDryTo = has(p.dry[s], c) ? to : dryTo;
-                    int newStayTo = has(p.stays[s], c) ? to : stayTo;
-                    int newWork = work + brook.workOf(s, c);
+                int ease = brook.easeOf(s);
+                if (!has(used, s) && has(p.uses[s], c) && c - ease <= far) {
                     p.row[c] = s;
-                    layFrom(p, brook, c + 1, used | 1 << s, newWork, newDryTo, newStayTo);
+                    int newWork = work + brook.workOf(s, c);
+                    layFrom(p, brook, c + 1, used | 1 << s, newWork, c + ease + p.stride);
                 }
             }
-            p.row[c] = NONE;
-        }
-
-        /** Whether a STONE is near enough to what is laid ahead of it, where it is a PLACE. */
-        private boolean isNear(int s, int c, int ease, int dryTo, int stayTo) {
-            if (has(stays[s], c) && c - ease > stayTo) {
-                return false;
-            }
-            return !has(dry[s], c) || c - ease <= dryTo;
         }
 
         private static int laid(Brook brook, int used) {
@@ -1130,11 +1113,8 @@ public final class BrookStones {
 
         /** Takes the row, by which one CAN already, if one also CAN behind the FLOOD. */
         private void take(Brook brook, int used, int work) {
-            if (rounds > 0) {
-                flood.run(brook, row, brook.guarded, f, rounds);
-                if (!isCrossedBehind(brook)) {
-                    return;
-                }
+            if (rounds > 0 && !isCrossedBehind(brook)) {
+                return;
             }
             bestWork = work;
             bestMany = laid(brook, used);
@@ -1142,16 +1122,15 @@ public final class BrookStones {
         }
 
         private boolean isCrossedBehind(Brook brook) {
-            int standing = 0;
+            flood.run(brook, row, brook.guarded, f, rounds);
             int tables = 0;
             for (int c = 0; c < brook.cells; c++) {
-                int s = row[c];
-                if (s != NONE && has(flood.standing, c) && has(dry[s], c)) {
-                    standing |= 1 << c;
-                    tables |= brook.easeOf(s) << c;
+                if (row[c] != NONE) {
+                    tables |= brook.easeOf(row[c]) << c;
                 }
             }
-            return farthest(standing, tables, brook.cells, stride) >= brook.cells;
+            // All of the row are DRY (see lookAt).
+            return farthest(flood.standing, tables, brook.cells, stride) >= brook.cells;
         }
     }
 

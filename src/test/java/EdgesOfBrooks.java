@@ -64,6 +64,7 @@ final class EdgesOfBrooks {
         firstFaults(check);
         whatIsTaken(check);
         allAnew(check);
+        smallerBehindGreater(check);
         brookRefused(check);
         brookFaults(check);
         ofCell(check);
@@ -296,6 +297,21 @@ final class EdgesOfBrooks {
             ofCell 0 0 = 1
             """);
         Script.test(check, "2 brook: the last 12 of 60 cells", lastOfSixty());
+        Script.test(check, "2 brook: the last digits of the last SHEET: no code behind them is looked at", """
+            sheet 3 0 60 = 1
+            put 3 54 100 = 1
+            put 3 55 51 = 1
+            put 3 56 52 = 1
+            put 3 57 53 = 1
+            put 3 58 54 = 1
+            put 3 59 55 = 1
+            brook 3 0 54 6 = -106 !0
+            brook 3 0 54 5 = -105 !0
+            brook 3 0 54 4 = -104 !0
+            brook 3 0 54 1 = -101 !0
+            brook 3 0 59 1 = -100 !0
+            brook 3 0 60 0 = -100 !0
+            """);
         for (int sort = 0; sort < 3; sort++) {
             int k = sort + 1;
             Script.test(check, "2 brook: of SHEET " + k + ", of SORT " + sort, """
@@ -363,6 +379,67 @@ final class EdgesOfBrooks {
         Script.test(check, "2 brook: what is not taken changes nothing", FULL_BROOK,
                 "text d123;b456;p = -111 !0", "brook 0 2 0 1 = -100 !0", "many 0 = 4", "many 1 = 6", "many 2 = 2", "many 3 = 2",
                 "many 4 = 1", "many 5 = 2", "many 6 = 7", "ofCell 1 2 = 1", "stride 1 = 8", "ofStone 0 5 = -5");
+    }
+
+    /** Whatever a greater BROOK left in rows that are used again is not there in a smaller one. */
+    private static void smallerBehindGreater(Check check) {
+        String greater = """
+            text d0000000;b0000000;p1 = 7
+            walker 2 = 0
+            stone 2 9 3 0 = 0
+            stone 1 9 3 0 = 1
+            stone 0 9 3 0 = 2
+            stone 0 9 3 0 = 3
+            set 0 1 = 1
+            set 1 3 = 1
+            set 2 5 = 1
+            set 3 6 = 1
+            can 0 false = 1
+            way 0 -1 = 4
+            way 0 2 = 5
+            highest 0 false = 8
+            pass 0 0 = 10
+            stands 0 2 = 10
+            stands 0 1 = 106
+            goes 6 0 = 2
+            dug 6 0 30 = 4
+            save 0 2 0 = 5
+            plan 2 0 1 -1 = 36
+            plan 2 0 1 6 = NONE
+            orders 2 = 1
+            order 2 3 = 6
+            fits 106 0 = 1023
+            """;
+        String smaller = """
+            text d000;b000;p0 = 3
+            walker 2 = 0
+            stone 0 1 1 0 = 0
+            can 0 false = 0
+            way 0 -1 = NONE
+            plan 2 0 1 -1 = 2
+            plan 2 0 1 0 = NONE
+            plan 2 0 1 1 = 0
+            plan 2 0 1 2 = NONE
+            plan 1 0 1 -1 = NONE
+            set 0 1 = 1
+            can 0 false = 1
+            way 0 -1 = 2
+            way 0 0 = 1
+            way 0 1 = 3
+            way 0 2 = NONE
+            highest 0 false = 0
+            pass 0 0 = 0
+            stands 0 30 = 2
+            goes 1 1 = 1
+            dug 0 1 30 = 0
+            save 1 1 0 = 1
+            orders 2 = 1
+            order 2 0 = 1
+            order 2 1 = NONE
+            fits 2 1 = 1
+            flood 1 1 = 1
+            """;
+        Script.test(check, "2 brook: anew: a smaller BROOK behind a greater one, and a greater one again", greater, smaller, greater);
     }
 
     private static void brookRefused(Check check) {

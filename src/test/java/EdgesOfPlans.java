@@ -24,6 +24,7 @@ final class EdgesOfPlans {
         whichStones(check);
         byWater(check);
         byTables(check);
+        byTablesBehindFloods(check);
         floodIsLookedAt(check);
         whatStandsBehind(check);
     }
@@ -145,6 +146,18 @@ final class EdgesOfPlans {
         Script.test(check, "22 plan: EASE of both STONES", SIX, "stone 2 1 1 0 = 0", "stone 2 1 1 0 = 1", plan("1 0 0", 21, 2, -9, 0, -9, -9, 1, -9),
                 plan("2 0 0", 15, 2, 0, -9, -9, 1, -9, -9), "text d0000000;b0000000;p0 = 7", "stone 2 1 1 0 = 0", "stone 2 1 1 0 = 1",
                 noPlan("1 0 0", 7));
+    }
+
+    private static void byTablesBehindFloods(Check check) {
+        Script.test(check, "22 plan: EASE behind a FLOOD", THREE, "stone 2 1 1 0 = 0", plan("1 1 3", 6, 1, -9, 0, -9), noPlan("1 1 4", 3), plan("2 1 3", 3, 1, 0, -9, -9),
+                "set 0 1 = 1", plan("1 1 1", 6, 1, -9, 0, -9));
+        Script.test(check, "22 plan: EASE of both behind a FLOOD", SIX, "stone 2 1 1 0 = 0", "stone 2 1 1 0 = 1", plan("1 1 3", 21, 2, -9, 0, -9, -9, 1, -9),
+                noPlan("1 1 4", 6), plan("2 1 1", 15, 2, 0, -9, -9, 1, -9, -9));
+        Script.test(check, "22 plan: a FLAT has no EASE, neither does a STONE, behind a FLOOD, too", THREE, "stone 1 1 1 0 = 0", "stone 0 1 9 0 = 1", noPlan("1 0 0", 3),
+                noPlan("1 0 1", 3), plan("2 0 1", 2, 1, -9, 0, -9), plan("2 1 1", 2, 1, -9, 0, -9));
+        Script.test(check, "22 plan: one comes to each STONE of it: a light one that is too far does not do for a TABLE", "text d9009;b0000;p0 = 4",
+                "stone 0 1 1 0 = 0", "stone 2 20 1 0 = 1", "stone 2 20 9 0 = 2", plan("1 0 0", 36, 2, 2, -9, 1, -9), plan("1 1 3", 36, 2, 2, -9, 1, -9),
+                noPlan("1 1 4", 4));
     }
 
     private static void floodIsLookedAt(Check check) {

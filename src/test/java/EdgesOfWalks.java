@@ -145,6 +145,9 @@ final class EdgesOfWalks {
                 "stone 0 1 1 0 = 1", "stone 0 1 1 0 = 2", "set 1 3 = 1", "set 2 4 = 1", "way 0 -1 = 2", "way 0 0 = 3", "way 0 1 = 5");
         Script.test(check, "13 way: a TABLE spares a stride", FIVE, "walker 2 = 0", "stone 2 1 1 0 = 0", "stone 0 1 1 0 = 1",
                 "stone 0 1 1 0 = 2", "set 1 0 = 1", "set 0 2 = 1", "set 2 4 = 1", "way 0 -1 = 2", "way 0 0 = 2", "way 0 1 = 5");
+        Script.test(check, "13 way: a FLAT, a STONE in its place spare none", FIVE, "walker 2 = 0", "stone 1 1 1 0 = 0", "stone 0 1 1 0 = 1",
+                "stone 0 1 1 0 = 2", "stone 0 1 1 0 = 3", "set 1 0 = 1", "set 0 2 = 1", "set 2 4 = 1", "way 0 -1 = 4", "way 0 0 = 0", "way 0 1 = 2",
+                "way 0 2 = 4", "set 0 NONE = 1", "set 3 2 = 1", "way 0 -1 = 4");
         Script.test(check, "13 way: EASE of both: from TABLE to TABLE", SIX, "walker 2 = 0", "stone 2 1 1 0 = 0",
                 "stone 2 1 1 0 = 1", "stone 0 1 1 0 = 2", "set 0 0 = 1", "set 2 2 = 1", "set 1 4 = 1", "way 0 -1 = 3", "way 0 0 = 0", "way 0 1 = 4", "way 0 2 = 6",
                 "stone 2 1 1 0 = 3", "set 3 1 = 1", "way 0 -1 = 3", "way 0 0 = 0", "way 0 1 = 4");
