@@ -1022,10 +1022,9 @@ public final class BrookStones {
      */
     private static final class Planner {
         private static final int NO_WORK = 1_000_000;
-        private final Flood flood = new Flood();
         private final int[] row = new int[MOST_CELLS];
         private final int[] best = new int[MOST_CELLS];
-        // Of each STONE the CELLS in which it is of use: it may be DRY behind the FLOOD, too.
+        // Of each STONE the CELLS in which it is of use: DRY, and so that it outlasts the FLOOD alone.
         private final int[] uses = new int[MOST_STONES];
         // How far one has to come by what is laid ahead of a CELL, to come across at all.
         private final int[] needed = new int[MOST_CELLS + 1];
@@ -1069,14 +1068,13 @@ public final class BrookStones {
         }
 
         /**
-         * STONES beside it can only dig more: what goes alone in its CELL goes in any row, and is
-         * WORK for nothing there, as is what is not DRY.
+         * STONES beside it can only dig more: what goes alone in its CELL goes in any row, and the
+         * best one stands whole (see standsWhole). What is not DRY is WORK for nothing.
          */
         private void lookAt(Brook brook, int s) {
             uses[s] = 0;
             for (int c = 0; c < brook.cells; c++) {
-                int dug = rounds * Flood.digging(brook, c, 0, brook.guarded, f);
-                if (brook.topOf(s, c, brook.water) >= 1 && dug < brook.holdOf(s)) {
+                if (brook.topOf(s, c, brook.water) >= 1 && outlasts(brook, s, c, 0)) {
                     uses[s] |= 1 << c;
                 }
             }
@@ -1088,7 +1086,9 @@ public final class BrookStones {
                 return;
             }
             if (c >= brook.cells) {
-                p.take(brook, used, work);
+                if (p.standsWhole(brook)) {
+                    p.take(brook, used, work);
+                }
                 return;
             }
             p.row[c] = NONE;
@@ -1111,26 +1111,34 @@ public final class BrookStones {
             return work > bestWork || (work == bestWork && laid(brook, used) > bestMany);
         }
 
-        /** Takes the row, by which one CAN already, if one also CAN behind the FLOOD. */
         private void take(Brook brook, int used, int work) {
-            if (rounds > 0 && !isCrossedBehind(brook)) {
-                return;
-            }
             bestWork = work;
             bestMany = laid(brook, used);
             System.arraycopy(row, 0, best, 0, MOST_CELLS);
         }
 
-        private boolean isCrossedBehind(Brook brook) {
-            flood.run(brook, row, brook.guarded, f, rounds);
-            int tables = 0;
+        /**
+         * The best row stands whole: if some of it goes, the rest alone is a row, too, of less
+         * WORK; it is dug less then, stands, and is crossed as it was behind the FLOOD.
+         */
+        private boolean standsWhole(Brook brook) {
+            int filled = 0;
             for (int c = 0; c < brook.cells; c++) {
                 if (row[c] != NONE) {
-                    tables |= brook.easeOf(row[c]) << c;
+                    filled |= 1 << c;
                 }
             }
-            // All of the row are DRY (see lookAt).
-            return farthest(flood.standing, tables, brook.cells, stride) >= brook.cells;
+            for (int c = 0; c < brook.cells; c++) {
+                if (row[c] != NONE && !outlasts(brook, row[c], c, filled)) {
+                    return false;
+                }
+            }
+            return true;
+        }
+
+        /** Whether a STONE stands behind the FLOOD, if all these CELLS keep theirs. */
+        private boolean outlasts(Brook brook, int s, int c, int filled) {
+            return rounds * Flood.digging(brook, c, filled, brook.guarded, f) < brook.holdOf(s);
         }
     }
 

@@ -5,6 +5,7 @@ public final class AllTests {
     public static void main(String[] args) {
         Check check = new Check();
         FaceTests.all(check);
+        ReadmeTests.all(check);
         BrookTests.all(check);
         StoneTests.all(check);
         FloodTests.all(check);
