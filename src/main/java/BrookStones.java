@@ -255,7 +255,7 @@ public final class BrookStones {
         if (!brook.isThere()) {
             return STATE;
         }
-        flood.run(brook, brook.row, brook.guarded, f, rounds);
+        flood.run(brook, brook.guarded, f, rounds);
         return flood.standing;
     }
 
@@ -266,7 +266,7 @@ public final class BrookStones {
         if (!isFlood(f, MOST_ROUNDS)) {
             return OUTSIDE;
         }
-        flood.run(brook, brook.row, brook.guarded, f, MOST_ROUNDS);
+        flood.run(brook, brook.guarded, f, MOST_ROUNDS);
         return flood.went[c];
     }
 
@@ -277,7 +277,7 @@ public final class BrookStones {
         if (!isFlood(f, rounds)) {
             return OUTSIDE;
         }
-        flood.run(brook, brook.row, brook.guarded, f, rounds);
+        flood.run(brook, brook.guarded, f, rounds);
         return flood.dug[c];
     }
 
@@ -288,7 +288,7 @@ public final class BrookStones {
         if (!brook.isThere()) {
             return STATE;
         }
-        flood.run(brook, brook.row, brook.guarded, f, rounds);
+        flood.run(brook, brook.guarded, f, rounds);
         int going = brook.filled() & ~flood.standing;
         brook.loseStonesOf(going);
         return Integer.bitCount(going);
@@ -304,7 +304,7 @@ public final class BrookStones {
         int best = NONE;
         int most = -1;
         for (int c = 0; c < brook.cells; c++) {
-            flood.run(brook, brook.row, brook.guarded | 1 << c, f, rounds);
+            flood.run(brook, brook.guarded | 1 << c, f, rounds);
             int stand = Integer.bitCount(flood.standing);
             if (stand > most) {
                 best = c;
@@ -331,9 +331,9 @@ public final class BrookStones {
             return NONE;
         }
         if (q == -2) {
-            return planner.bestMany;
+            return planner.bestMany();
         }
-        return q == -1 ? planner.bestWork : planner.best[q];
+        return q == -1 ? planner.bestWork() : planner.best[q];
     }
 
     // ---- 5 orders, what it was
@@ -370,7 +370,7 @@ public final class BrookStones {
         }
         int fit = 0;
         for (int f = 0; f < FLOODS; f++) {
-            flood.run(brook, brook.row, brook.guarded, f, rounds);
+            flood.run(brook, brook.guarded, f, rounds);
             if (flood.standing == cells) {
                 fit |= 1 << f;
             }
@@ -402,7 +402,7 @@ public final class BrookStones {
     private int weightAcross(int x, int sheet, int i, int rounds) {
         int good = 0;
         for (int f = 0; f < FLOODS; f++) {
-            flood.run(brook, brook.row, brook.guarded, f, rounds);
+            flood.run(brook, brook.guarded, f, rounds);
             if (brook.isCrossed(flood.standing, brook.water, brook.reachOf(x, false))) {
                 good += sheets.at(sheet, i + f);
             }
@@ -973,23 +973,18 @@ public final class BrookStones {
         private final int[] went = new int[MOST_CELLS];
         private int standing;
 
-        private void run(Brook brook, int[] row, int guarded, int f, int rounds) {
-            standing = 0;
-            for (int c = 0; c < brook.cells; c++) {
-                dug[c] = 0;
-                went[c] = NONE;
-                if (row[c] != NONE) {
-                    standing |= 1 << c;
-                }
-            }
+        private void run(Brook brook, int guarded, int f, int rounds) {
+            standing = brook.filled();
+            Arrays.fill(dug, 0);
+            Arrays.fill(went, NONE);
             // What does not dig in one ROUND digs in none of the next ones: the same STONES stand.
             boolean digs = true;
             for (int round = 1; round <= rounds && digs; round++) {
-                digs = goRound(brook, row, guarded, f, round);
+                digs = goRound(brook, guarded, f, round);
             }
         }
 
-        private boolean goRound(Brook brook, int[] row, int guarded, int f, int round) {
+        private boolean goRound(Brook brook, int guarded, int f, int round) {
             boolean digs = false;
             int before = standing;
             for (int c = 0; c < brook.cells; c++) {
@@ -997,7 +992,7 @@ public final class BrookStones {
                     int more = digging(brook, c, before, guarded, f);
                     digs = digs || more > 0;
                     dug[c] += more;
-                    if (dug[c] >= brook.holdOf(row[c])) {
+                    if (dug[c] >= brook.holdOf(brook.row[c])) {
                         standing &= ~(1 << c);
                         went[c] = round;
                     }
@@ -1017,19 +1012,22 @@ public final class BrookStones {
     }
 
     /**
-     * A PLAN, looked for through all rows, CELL by CELL, from the last row to the first: so, of
-     * rows as good as one another, the one that is taken last is the first.
+     * A PLAN, looked for through rows that stand whole, CELL by CELL, from the last row to the
+     * first: so, of rows as good as one another, the one that is taken last is the first. The best
+     * row stands whole: if some of it went, the rest alone would be a row of less WORK; it is dug
+     * less then, stands, and is crossed as it was behind the FLOOD.
      */
     private static final class Planner {
-        private static final int NO_WORK = 1_000_000;
+        // A row's cost tells WORK and, behind it, how many STONES: so the lower one is the better.
+        private static final int PER_WORK = MOST_STONES + 1;
+        private static final int NOTHING_YET = 1_000_000, NO_WAY = NOTHING_YET + 1;
         private final int[] row = new int[MOST_CELLS];
         private final int[] best = new int[MOST_CELLS];
         // Of each STONE the CELLS in which it is of use: DRY, and so that it outlasts the FLOOD alone.
         private final int[] uses = new int[MOST_STONES];
-        // How far one has to come by what is laid ahead of a CELL, to come across at all.
-        private final int[] needed = new int[MOST_CELLS + 1];
-        private int bestWork;
-        private int bestMany;
+        // The least cost from a CELL on, of who comes so far until there, if STONES were not used up.
+        private final int[][] least = new int[MOST_CELLS + 1][MOST_CELLS + 1];
+        private int bestCost;
         private int stride;
         private int f;
         private int rounds;
@@ -1038,102 +1036,106 @@ public final class BrookStones {
             stride = itsStride;
             f = itsF;
             rounds = itsRounds;
-            bestWork = NO_WORK;
-            bestMany = 0;
-            Arrays.fill(row, NONE);
+            bestCost = NOTHING_YET;
             for (int s = 0; s < brook.stones; s++) {
-                lookAt(brook, s);
+                uses[s] = has(brook.gone, s) ? 0 : usesOf(brook, s);
             }
             lookAhead(brook);
-            layFrom(this, brook, 0, brook.gone, 0, stride - 1);
-        }
-
-        /** As if there were enough of each STONE, and from the far bank on. */
-        private void lookAhead(Brook brook) {
-            needed[brook.cells] = brook.cells;
-            for (int c = brook.cells - 1; c >= 0; c--) {
-                needed[c] = needed[c + 1];
-                for (int s = 0; s < brook.stones; s++) {
-                    int ease = brook.easeOf(s);
-                    boolean helps = has(uses[s], c) && !has(brook.gone, s);
-                    if (helps && c + ease + stride >= needed[c + 1]) {
-                        needed[c] = Math.min(needed[c], c - ease);
-                    }
-                }
-            }
+            Arrays.fill(row, NONE);
+            layFrom(this, brook, 0, 0, 0, 0, Math.min(stride - 1, brook.cells));
         }
 
         private boolean isFound() {
-            return bestWork != NO_WORK;
+            return bestCost != NOTHING_YET;
         }
 
-        /**
-         * STONES beside it can only dig more: what goes alone in its CELL goes in any row, and the
-         * best one stands whole (see standsWhole). What is not DRY is WORK for nothing.
-         */
-        private void lookAt(Brook brook, int s) {
-            uses[s] = 0;
+        private int bestWork() {
+            return bestCost / PER_WORK;
+        }
+
+        private int bestMany() {
+            return bestCost % PER_WORK;
+        }
+
+        /** STONES beside it dig more: what goes alone goes in any row. What is not DRY is WORK for nothing. */
+        private int usesOf(Brook brook, int s) {
+            int found = 0;
             for (int c = 0; c < brook.cells; c++) {
                 if (brook.topOf(s, c, brook.water) >= 1 && outlasts(brook, s, c, 0)) {
-                    uses[s] |= 1 << c;
+                    found |= 1 << c;
                 }
             }
+            return found;
+        }
+
+        private void lookAhead(Brook brook) {
+            Arrays.fill(least[brook.cells], NO_WAY);
+            least[brook.cells][brook.cells] = 0;
+            for (int c = brook.cells - 1; c >= 0; c--) {
+                for (int far = 0; far <= brook.cells; far++) {
+                    least[c][far] = leastFrom(brook, c, far);
+                }
+            }
+        }
+
+        private int leastFrom(Brook brook, int c, int far) {
+            int found = least[c + 1][far];
+            for (int s = 0; s < brook.stones; s++) {
+                if (helps(brook, s, c, far)) {
+                    int behind = least[c + 1][farBehind(brook, s, c)];
+                    found = Math.min(found, costOf(brook, s, c) + behind);
+                }
+            }
+            return found;
         }
 
         /** Goes on with a row from CELL c on, by which one comes as far as far until there. */
-        private static void layFrom(Planner p, Brook brook, int c, int used, int work, int far) {
-            if (far < p.needed[c] || p.isWorse(brook, used, work)) {
+        private static void layFrom(Planner p, Brook brook, int c, int used, int filled, int cost, int far) {
+            if (cost + p.least[c][far] > p.bestCost || !p.lastOnesStand(brook, c, filled)) {
                 return;
             }
             if (c >= brook.cells) {
-                if (p.standsWhole(brook)) {
-                    p.take(brook, used, work);
-                }
+                p.take(cost);
                 return;
             }
             p.row[c] = NONE;
-            layFrom(p, brook, c + 1, used, work, far);
+            layFrom(p, brook, c + 1, used, filled, cost, far);
             for (int s = brook.stones - 1; s >= 0; s--) {
-                int ease = brook.easeOf(s);
-                if (!has(used, s) && has(p.uses[s], c) && c - ease <= far) {
+                if (!has(used, s) && p.helps(brook, s, c, far)) {
                     p.row[c] = s;
-                    int newWork = work + brook.workOf(s, c);
-                    layFrom(p, brook, c + 1, used | 1 << s, newWork, c + ease + p.stride);
+                    int newCost = cost + costOf(brook, s, c);
+                    int newFar = p.farBehind(brook, s, c);
+                    layFrom(p, brook, c + 1, used | 1 << s, filled | 1 << c, newCost, newFar);
                 }
             }
         }
 
-        private static int laid(Brook brook, int used) {
-            return Integer.bitCount(used & ~brook.gone);
-        }
-
-        private boolean isWorse(Brook brook, int used, int work) {
-            return work > bestWork || (work == bestWork && laid(brook, used) > bestMany);
-        }
-
-        private void take(Brook brook, int used, int work) {
-            bestWork = work;
-            bestMany = laid(brook, used);
+        private void take(int cost) {
+            bestCost = cost;
             System.arraycopy(row, 0, best, 0, MOST_CELLS);
         }
 
-        /**
-         * The best row stands whole: if some of it goes, the rest alone is a row, too, of less
-         * WORK; it is dug less then, stands, and is crossed as it was behind the FLOOD.
-         */
-        private boolean standsWhole(Brook brook) {
-            int filled = 0;
-            for (int c = 0; c < brook.cells; c++) {
-                if (row[c] != NONE) {
-                    filled |= 1 << c;
-                }
-            }
-            for (int c = 0; c < brook.cells; c++) {
-                if (row[c] != NONE && !outlasts(brook, row[c], c, filled)) {
+        /** Whether the two CELLS ahead of CELL c keep their STONES, as far as the row is laid. */
+        private boolean lastOnesStand(Brook brook, int c, int filled) {
+            for (int k = Math.max(c - 2, 0); k < c; k++) {
+                if (has(filled, k) && !outlasts(brook, row[k], k, filled)) {
                     return false;
                 }
             }
             return true;
+        }
+
+        private boolean helps(Brook brook, int s, int c, int far) {
+            return has(uses[s], c) && c - brook.easeOf(s) <= far;
+        }
+
+        /** The farthest number that is near enough from there, the far bank at most. */
+        private int farBehind(Brook brook, int s, int c) {
+            return Math.min(c + brook.easeOf(s) + stride, brook.cells);
+        }
+
+        private static int costOf(Brook brook, int s, int c) {
+            return PER_WORK * brook.workOf(s, c) + 1;
         }
 
         /** Whether a STONE stands behind the FLOOD, if all these CELLS keep theirs. */
